@@ -236,7 +236,7 @@ public final class GutterRights {
         return leastFor(OF_HOLDS, MOST_HOLDS_TRIED, house, n);
     }
 
-    /** Tries every NEED: a BREWERY that needs more KEEPS more too, so halving would not do here. */
+    /** Tries every NEED: with less of it a BREWERY KEEPS less too, so less isn't plainly better. */
     public int needFor(int house, int n) {
         if (!isHouse(house) || !isUpTo(n, AHEAD)) {
             return tell(BEYOND);
