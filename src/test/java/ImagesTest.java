@@ -1,0 +1,150 @@
+/** Promises 39 to 43: image, undo, tear, count, status. */
+public final class ImagesTest {
+
+    public static void main(String[] args) {
+        imageAndUndo();
+        whatIsNotKept();
+        tear();
+        count();
+        status();
+        Due.end();
+    }
+
+    private static void changeAll(GutterRights x, int by) {
+        Due.text(x, "dyer 1 has 3" + by + " needs 4" + by + " holds 5" + by + " right;rain 6" + by);
+        x.hold(by, 3);
+        x.seed(100 + by);
+        x.change(10, 5, 50 + by);
+        x.pour(10, 9999);
+        x.pour(10, by);
+        x.showers(3);
+        x.go(2 + by);
+    }
+
+    private static void imageAndUndo() {
+        GutterRights x = new GutterRights();
+        String first = Due.stateOf(x);
+        Due.due("undo, nothing kept", x.undo(), Due.NONE);
+        Due.due("image", x.image(), 1);
+        changeAll(x, 1);
+        String second = Due.stateOf(x);
+        Due.due("undo", x.undo(), 0);
+        Due.due("as at first", Due.stateOf(x), first);
+        Due.due("undo again", x.undo(), 0);
+        Due.due("as at first again", Due.stateOf(x), first);
+        changeAll(x, 1);
+        Due.due("as changed", Due.stateOf(x), second);
+        Due.due("image of it", x.image(), 1);
+        Due.due("image changes nothing", Due.stateOf(x), second);
+        changeAll(x, 2);
+        Due.due("undo to the latest", x.undo(), 6);
+        Due.due("as kept latest", Due.stateOf(x), second);
+        x.spouts(2047);
+        x.hold(1, -1);
+        Due.due("undo to the latest, which stays", x.undo(), 6);
+        Due.due("as kept latest, which stays", Due.stateOf(x), second);
+    }
+
+    private static void whatIsNotKept() {
+        GutterRights x = new GutterRights();
+        Due.sheet(x, 0, 8, 5, 6);
+        Due.sheet(x, 1, 16, 7);
+        x.feed(' ', 1);
+        x.image();
+        Due.feed(x, "rain 3");
+        Due.sheet(x, 0, 16, 8, 9, 10);
+        x.sheet(1, 0, 0);
+        x.now(-1);
+        x.undo();
+        Due.due("sheet 0 stays", Due.numbersOf(x, 0), "[16:8 16:9 16:10 ]");
+        Due.due("sheet 1 stays missing", x.load(1), Due.MISSING);
+        Due.due("the tape stays", x.count(5), 7);
+        Due.due("and can be read", x.text(), 1);
+        Due.due("rain", x.now(6), 3);
+        GutterRights y = new GutterRights();
+        y.image();
+        y.now(-1);
+        y.undo();
+        Due.due("undo takes no finding back", y.status(-1), 1);
+        Due.due("undo takes no BEYOND back", y.status(0), 1);
+    }
+
+    private static void tear() {
+        GutterRights x = new GutterRights();
+        Due.due("tear nothing", x.tear(), 0);
+        x.image();
+        x.rain(5);
+        x.image();
+        Due.due("tear", x.tear(), 1);
+        Due.due("tear again", x.tear(), 0);
+        Due.due("undo", x.undo(), Due.NONE);
+        Due.due("rain stays", x.now(6), 5);
+        Due.due("image", x.image(), 1);
+        Due.due("undo then", x.undo(), 0);
+    }
+
+    private static void count() {
+        GutterRights x = new GutterRights();
+        x.change(3, 0, 4);
+        x.change(4, 0, 6);
+        x.change(4, 1, 17);
+        x.change(10, 1, 100);
+        x.change(5, 5, 1);
+        x.change(6, 2, 0);
+        x.hold(0, 0);
+        x.hold(9, 10);
+        x.seed(-7);
+        x.feed(0, 3);
+        Due.due("count(0)", x.count(0), 0);
+        Due.due("count(1)", x.count(1), 2);
+        Due.due("count(2)", x.count(2), 1);
+        Due.due("count(3)", x.count(3), 117);
+        Due.due("count(4)", x.count(4), 0);
+        Due.due("count(5)", x.count(5), 3);
+        Due.due("count(6)", x.count(6), -7);
+        Due.due("count(7)", x.count(7), 2);
+        x.go(1);
+        Due.due("count(0) then", x.count(0), 1);
+        // HOUSES 1, 2, 5, 7, 8 and 9 are DRY: 3 is a duel, 6 needs nothing.
+        Due.due("count(2) then", x.count(2), 6);
+        // 10 and 8 of RAIN, 14 in the invalid, 10 in HOUSE 10.
+        Due.due("count(3) then", x.count(3), 10 + 8 + 14 + 10);
+        Due.due("count(4) then", x.count(4), 88);
+        Due.due("count(-1)", x.count(-1), Due.BEYOND);
+        Due.due("count(8)", x.count(8), Due.BEYOND);
+        Due.due("status(0)", x.status(0), 2);
+    }
+
+    private static void status() {
+        GutterRights x = new GutterRights();
+        Due.due("status(7)", x.status(7), Due.BEYOND);
+        Due.due("status(0), counted from then on", x.status(0), 1);
+        Due.due("status(-2)", x.status(-2), Due.BEYOND);
+        Due.due("status(min)", x.status(Integer.MIN_VALUE), Due.BEYOND);
+        Due.due("status(-1)", x.status(-1), 3);
+        for (int i = 0; i < 31; i++) {
+            x.feed(0, 4);
+        }
+        Due.due("FULL", x.status(1), 1);
+        x.hold(0, 0);
+        x.as(0, 1);
+        x.as(0, 2);
+        Due.due("KIND", x.status(2), 2);
+        x.undo();
+        x.when(0, 9999);
+        x.turn(2047, 5);
+        Due.due("NONE", x.status(3), 3);
+        Due.due("STATE", x.status(4), 0);
+        x.as(1, 0);
+        x.load(0);
+        x.judge(0);
+        x.turned(0, 0);
+        Due.due("MISSING", x.status(5), 4);
+        x.sheet(0, 8, -1);
+        Due.due("SIZE", x.status(6), 1);
+        Due.due("BEYOND", x.status(0), 3);
+        x.odds(-1, 0, 0);
+        Due.due("BEYOND of odds()", x.status(0), 4);
+        Due.due("all", x.status(-1), 4 + 1 + 2 + 3 + 4 + 1);
+    }
+}
