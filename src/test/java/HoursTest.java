@@ -178,6 +178,10 @@ public final class HoursTest {
         Due.due("hour", x.now(0), 99960);
         Due.due("go(40)", x.go(40), Due.STATE);
         Due.due("go(61) is BEYOND first", x.go(61), Due.BEYOND);
+        x.image();
+        Due.due("go(39) is not too far", x.go(39) < 0 ? 1 : 0, 0);
+        Due.due("hour behind go(39)", x.now(0), 99999);
+        x.undo();
         x.go(29);
         Due.due("showers(11)", x.showers(11), Due.STATE);
         Due.due("showers(21) is BEYOND first", x.showers(21), Due.BEYOND);

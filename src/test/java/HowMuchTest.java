@@ -53,6 +53,8 @@ public final class HowMuchTest {
         x.change(3, 2, 40);
         Due.due("holdsFor: 200", x.holdsFor(3, 6), 200);
         Due.due("holdsFor: 240", x.holdsFor(3, 7), Due.NONE);
+        x.change(3, 2, 67);
+        Due.due("holdsFor: 201", x.holdsFor(3, 4), Due.NONE);
     }
 
     private static void needFor() {

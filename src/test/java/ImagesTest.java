@@ -103,6 +103,16 @@ public final class ImagesTest {
         Due.due("count(5)", x.count(5), 3);
         Due.due("count(6)", x.count(6), -7);
         Due.due("count(7)", x.count(7), 2);
+        for (int house = 0; house < 11; house++) {
+            GutterRights y = new GutterRights();
+            y.change(house, 0, 1);
+            y.change(house, 1, 3);
+            y.change(house, 5, 1);
+            Due.due("count(1) with " + house, y.count(1), 1);
+            Due.due("count(2) with " + house, y.count(2), 1);
+            Due.due("count(3) with " + house, y.count(3), 3);
+            Due.due("now(4) with " + house, y.now(4), 1 << house);
+        }
         x.go(1);
         Due.due("count(0) then", x.count(0), 1);
         // HOUSES 1, 2, 5, 7, 8 and 9 are DRY: 3 is a duel, 6 needs nothing.

@@ -70,9 +70,14 @@ public final class SheetsTest {
         Due.due("sheet(0, 8, 40) again", x.sheet(0, 8, 40), 40);
         Due.due("all 0", x.load(0), 11);
         Due.due("need 0", x.of(10, 2), 0);
-        x.sheet(2, 8, 1);
-        x.copy(0, 39, 2, 0, 1);
-        Due.due("the last is 0", x.judge(2), 0);
+        Due.sheet(x, 2, 8, 5, 6, 7);
+        x.sheet(2, 8, 3);
+        Due.due("all 0 again", Due.numbersOf(x, 2), "[8:0 8:0 8:0 ]");
+        Due.sheet(x, 2, 8, 5, 6, 7);
+        x.sheet(2, 16, 1);
+        x.sheet(2, 0, 0);
+        x.sheet(2, 16, 2);
+        Due.due("all 0, of other bits", Due.numbersOf(x, 2), "[16:0 16:0 ]");
         Due.due("sheet(0, 0, 40)", x.sheet(0, 0, 40), 0);
         Due.due("missing", x.write(0, 0, 1), Due.MISSING);
         Due.due("sheet(4, 8, 1)", x.sheet(4, 8, 1), Due.BEYOND);

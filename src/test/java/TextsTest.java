@@ -24,6 +24,8 @@ public final class TextsTest {
         Due.due("text", x.text(), 1);
         Due.due("rain 123", x.now(6), 123);
         Due.due("empty then", x.count(5), 0);
+        Due.due("a shorter text", Due.text(x, "rain 4"), 1);
+        Due.due("rain 4, without what was behind it", x.now(6), 4);
         for (int i = 1; i <= 29; i++) {
             Due.due("feed 4", x.feed(0x20202020, 4), 4 * i);
         }
@@ -122,6 +124,10 @@ public final class TextsTest {
         fault("house1leftright2", 6);
         fault("houses 1", 0);
         fault("hous 1", 0);
+        fault("mouse 1", 0);
+        fault("gain 1", 0);
+        fault("rait 1", 0);
+        fault("house 1 heft", 8);
         fault("House 1", 0);
         fault("houSe 1", 0);
         fault("house 1 has 3,", 13);
