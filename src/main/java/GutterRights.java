@@ -350,11 +350,9 @@ public final class GutterRights {
     // ---- what was seen
 
     public int turned(int s, int house) {
-        if (!isSheet(s)) {
-            return tell(BEYOND);
-        }
-        if (sheets[s].isMissing()) {
-            return tell(MISSING);
+        int finding = seekSheet(s);
+        if (finding != 0) {
+            return finding;
         }
         if (!isHouse(house)) {
             return tell(BEYOND);
@@ -370,11 +368,9 @@ public final class GutterRights {
     }
 
     public int kinds(int s, int house) {
-        if (!isSheet(s)) {
-            return tell(BEYOND);
-        }
-        if (sheets[s].isMissing()) {
-            return tell(MISSING);
+        int finding = seekSheet(s);
+        if (finding != 0) {
+            return finding;
         }
         if (!isHouse(house)) {
             return tell(BEYOND);
@@ -503,11 +499,9 @@ public final class GutterRights {
     }
 
     public int write(int s, int i, int v) {
-        if (!isSheet(s)) {
-            return tell(BEYOND);
-        }
-        if (sheets[s].isMissing()) {
-            return tell(MISSING);
+        int finding = seekSheet(s);
+        if (finding != 0) {
+            return finding;
         }
         if (i < 0 || i >= sheets[s].size) {
             return tell(BEYOND);
@@ -536,11 +530,9 @@ public final class GutterRights {
     }
 
     public int load(int s) {
-        if (!isSheet(s)) {
-            return tell(BEYOND);
-        }
-        if (sheets[s].isMissing()) {
-            return tell(MISSING);
+        int finding = seekSheet(s);
+        if (finding != 0) {
+            return finding;
         }
         int came = 0;
         while (came < sheets[s].size && came < HOUSES && isUpTo(sheets[s].numbers[came], MOST_NEED)) {
@@ -551,11 +543,9 @@ public final class GutterRights {
     }
 
     public int judge(int s) {
-        if (!isSheet(s)) {
-            return tell(BEYOND);
-        }
-        if (sheets[s].isMissing()) {
-            return tell(MISSING);
+        int finding = seekSheet(s);
+        if (finding != 0) {
+            return finding;
         }
         int[] numbers = sheets[s].numbers;
         for (int i = 0; i < sheets[s].size; i++) {
@@ -647,6 +637,14 @@ public final class GutterRights {
 
     private static boolean isSheet(int s) {
         return isUpTo(s, SHEETS - 1);
+    }
+
+    /** 0 if there is such a sheet, and it isn't MISSING; else the finding, counted. */
+    private int seekSheet(int s) {
+        if (!isSheet(s)) {
+            return tell(BEYOND);
+        }
+        return sheets[s].isMissing() ? tell(MISSING) : 0;
     }
 
     private static int mostOf(int what) {
@@ -772,28 +770,22 @@ public final class GutterRights {
         }
 
         static int using(int kind, int need, int hour) {
+            int asFont = hour % 2 == 0 ? need : 0;
+            int asBrewery = Math.max(0, 2 * need - 3);
             switch (kind) {
                 case FONT:
-                    return fontUsing(need, hour);
+                    return asFont;
                 case INVALID:
-                    return fontUsing(need, hour) + 1;
+                    return asFont + 1;
                 case DYER:
                     return 2 * need;
                 case BREWERY:
-                    return breweryUsing(need);
+                    return asBrewery;
                 case DUEL:
-                    return hour % 6 == 5 ? breweryUsing(need) : 0;
+                    return hour % 6 == 5 ? asBrewery : 0;
                 default:
                     return need;
             }
-        }
-
-        private static int fontUsing(int need, int hour) {
-            return hour % 2 == 0 ? need : 0;
-        }
-
-        private static int breweryUsing(int need) {
-            return Math.max(0, 2 * need - 3);
         }
 
         static int keeping(int kind, int holds, int need) {
