@@ -6,12 +6,12 @@ public final class AgainstPlainTest {
     public static void main(String[] args) {
         Random chance = new Random(20261118);
         for (int round = 0; round < 150; round++) {
-            GutterRights x = someQuarter(chance);
-            hours(round, x, chance);
-            ahead(round, x, chance);
-            howMuch(round, x, chance);
-            spouts(round, x, chance);
-            seen(round, x, chance);
+            hours(round, someQuarter(chance), chance);
+            ahead(round, someQuarter(chance), chance);
+            howMuch(round, someQuarter(chance), chance);
+            spouts(round, someQuarter(chance), chance);
+            seen(round, 0, someQuarter(chance), chance);
+            seen(round, 6, someQuarter(chance), chance);
         }
         Due.end();
     }
@@ -35,7 +35,7 @@ public final class AgainstPlainTest {
 
     private static void hours(int round, GutterRights x, Random chance) {
         PlainQuarter q = PlainQuarter.of(x);
-        for (int h = 0; h < 12; h++) {
+        for (int h = 0; h < 6; h++) {
             for (int i = 0; i < 11; i++) {
                 Due.due(round + ": uses of " + i, x.of(i, 6), q.uses(i));
                 Due.due(round + ": keeps of " + i, x.of(i, 7), q.keeps(i));
@@ -111,9 +111,9 @@ public final class AgainstPlainTest {
     }
 
     /** A sheet tells what would be with some SPOUT turned, or as some KIND, with holes. */
-    private static void seen(int round, GutterRights x, Random chance) {
+    private static void seen(int round, int first, GutterRights x, Random chance) {
         PlainQuarter q = PlainQuarter.of(x);
-        for (int house = 0; house < 11; house++) {
+        for (int house = first; house < Math.min(11, first + 6); house++) {
             boolean byKind = chance.nextBoolean();
             PlainQuarter was = byKind ? q.as(house, chance.nextInt(7)) : q.turned(1 << chance.nextInt(11));
             int[] seen = new int[chance.nextInt(chance.nextBoolean() ? 6 : 41)];

@@ -62,7 +62,7 @@ final class Due {
     static String stateOf(GutterRights x) {
         StringBuilder all = new StringBuilder();
         for (int house = 0; house < 11; house++) {
-            for (int what = 0; what < 10; what++) {
+            for (int what = 0; what < 6; what++) {
                 all.append(x.of(house, what)).append(' ');
             }
         }

@@ -3,6 +3,8 @@ public final class ImagesTest {
 
     public static void main(String[] args) {
         imageAndUndo();
+        imageChangesNothing();
+        keptLatest();
         whatIsNotKept();
         tear();
         count();
@@ -27,15 +29,30 @@ public final class ImagesTest {
         Due.due("undo, nothing kept", x.undo(), Due.NONE);
         Due.due("image", x.image(), 1);
         changeAll(x, 1);
-        String second = Due.stateOf(x);
         Due.due("undo", x.undo(), 0);
         Due.due("as at first", Due.stateOf(x), first);
+        changeAll(x, 2);
         Due.due("undo again", x.undo(), 0);
         Due.due("as at first again", Due.stateOf(x), first);
+    }
+
+    private static void imageChangesNothing() {
+        GutterRights x = new GutterRights();
         changeAll(x, 1);
-        Due.due("as changed", Due.stateOf(x), second);
+        String was = Due.stateOf(x);
+        Due.due("image", x.image(), 1);
+        Due.due("image changes nothing", Due.stateOf(x), was);
+        Due.due("tear", x.tear(), 1);
+        Due.due("tear changes nothing", Due.stateOf(x), was);
+    }
+
+    /** "what was kept latest (which stays)". */
+    private static void keptLatest() {
+        GutterRights x = new GutterRights();
+        x.image();
+        changeAll(x, 1);
+        String second = Due.stateOf(x);
         Due.due("image of it", x.image(), 1);
-        Due.due("image changes nothing", Due.stateOf(x), second);
         changeAll(x, 2);
         Due.due("undo to the latest", x.undo(), 6);
         Due.due("as kept latest", Due.stateOf(x), second);

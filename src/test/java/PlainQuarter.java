@@ -16,6 +16,14 @@ final class PlainQuarter {
     /** Which HOUSES were DRY in the latest HOUR. */
     int dryNow;
 
+    static PlainQuarter atFirst() {
+        PlainQuarter q = new PlainQuarter();
+        java.util.Arrays.fill(q.need, 2);
+        java.util.Arrays.fill(q.holds, 10);
+        q.rain = 20;
+        return q;
+    }
+
     static PlainQuarter of(GutterRights x) {
         PlainQuarter q = new PlainQuarter();
         for (int i = 0; i < 11; i++) {
