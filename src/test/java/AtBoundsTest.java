@@ -15,7 +15,9 @@ public final class AtBoundsTest {
         turn();
         turnOfMany();
         best();
+        bestOfTheLast();
         love();
+        loveOfTheLast();
         burst();
         go();
         showers();
@@ -291,6 +293,36 @@ public final class AtBoundsTest {
         x.change(5, 1, 300);
         x.change(5, 2, 99);
         Due.due("best(40), all alike", x.best(40), 0);
+    }
+
+    /** Each HOUSE has just what comes from that ahead of it: the last one's SPOUT alone may be turned. */
+    private static void bestOfTheLast() {
+        GutterRights x = new GutterRights();
+        x.rain(999);
+        for (int house = 0; house < 11; house++) {
+            x.change(house, 3, 0);
+        }
+        x.go(11);
+        Due.due("best(1), all alike", x.best(1), 0);
+        Due.due("best(2): 10", x.best(2), 10);
+        Due.due("best(40): 10", x.best(40), 10);
+        // Now HOUSE 10 gets nothing, and is DRY, unless 9 is turned back.
+        x.change(9, 4, 1);
+        x.change(10, 1, 2);
+        Due.due("best(1), turned", x.best(1), 0);
+        Due.due("best(2), turned back", x.best(2), 9);
+    }
+
+    /** What is in HOUSE 0 comes to HOUSE 10 behind ten HOURS, and is gone behind eleven: none may be turned. */
+    private static void loveOfTheLast() {
+        GutterRights x = chain(0);
+        x.rain(0);
+        x.change(0, 1, 9);
+        Due.due("love(10, 9): one is saved", x.love(10, 9), 0);
+        Due.due("love(10, 10): 10", x.love(10, 10), 10);
+        Due.due("love(10, 11): all alike", x.love(10, 11), 0);
+        Due.due("love(9, 9): 9", x.love(9, 9), 9);
+        Due.due("love(0, 0): all alike", x.love(0, 0), 0);
     }
 
     /** Promise 22: in the 40th HOUR HOUSE 0 lets go 1, to HOUSE 2. */

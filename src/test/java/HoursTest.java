@@ -189,8 +189,13 @@ public final class HoursTest {
         Due.due("hour at most", x.now(0), 99999);
         Due.due("go(1)", x.go(1), Due.STATE);
         Due.due("showers(1)", x.showers(1), Due.STATE);
+        x.rain(0);
+        for (int house = 0; house < 11; house++) {
+            x.change(house, 1, house == 3 ? 1 : 0);
+        }
         x.change(3, 0, 1);
-        x.change(3, 1, 1);
-        Due.due("the hour stays odd ahead", x.dry(3) >> 3 & 1, 0);
+        Due.due("a font uses nothing in HOUR 99999", x.of(3, 6), 0);
+        Due.due("HOUR stays 99999 ahead", x.dry(3) >> 3 & 1, 0);
+        Due.due("and further ahead", x.ahead(3, 1, 100), 1);
     }
 }

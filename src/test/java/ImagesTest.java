@@ -3,6 +3,7 @@ public final class ImagesTest {
 
     public static void main(String[] args) {
         imageAndUndo();
+        allIsKept();
         imageChangesNothing();
         keptLatest();
         whatIsNotKept();
@@ -34,6 +35,50 @@ public final class ImagesTest {
         changeAll(x, 2);
         Due.due("undo again", x.undo(), 0);
         Due.due("as at first again", Due.stateOf(x), first);
+    }
+
+    /** "All but THE TAPE and SHEETS is kept": each number of each HOUSE, each SPOT, and all others. */
+    private static void allIsKept() {
+        int[] kept = {3, 123, 45, 67, 1, 89};
+        GutterRights x = new GutterRights();
+        for (int house = 0; house < 11; house++) {
+            for (int what = 0; what < 6; what++) {
+                x.change(house, what, kept[what]);
+            }
+        }
+        for (int spot = 0; spot < 10; spot++) {
+            x.hold(spot, spot);
+        }
+        x.rain(321);
+        x.seed(-9);
+        x.image();
+        for (int house = 0; house < 11; house++) {
+            for (int what = 0; what < 6; what++) {
+                x.change(house, what, 0);
+            }
+        }
+        for (int spot = 0; spot < 10; spot++) {
+            x.hold(spot, 10 - spot);
+        }
+        x.rain(4);
+        x.seed(5);
+        x.pour(10, 9999);
+        x.pour(10, 5);
+        x.go(3);
+        Due.due("undo", x.undo(), 0);
+        for (int house = 0; house < 11; house++) {
+            for (int what = 0; what < 6; what++) {
+                Due.due("of(" + house + ", " + what + ")", x.of(house, what), kept[what]);
+            }
+        }
+        for (int spot = 0; spot < 10; spot++) {
+            Due.due("as(" + spot + ", 0)", x.as(spot, 0), spot);
+        }
+        Due.due("HOUR", x.now(0), 0);
+        Due.due("THE ALLEY", x.now(2), 0);
+        Due.due("LOST", x.now(3), 0);
+        Due.due("RAIN", x.now(6), 321);
+        Due.due("z", x.count(6), -9);
     }
 
     private static void imageChangesNothing() {

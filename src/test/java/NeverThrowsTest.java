@@ -2,11 +2,15 @@ import java.lang.reflect.InvocationTargetException;
 import java.lang.reflect.Method;
 import java.lang.reflect.Modifier;
 import java.util.ArrayList;
+import java.util.Arrays;
 import java.util.Comparator;
 import java.util.List;
 import java.util.Random;
 
-/** Runs of 512 calls by chance (always the same): none throws, and findings are counted as they are told. */
+/**
+ * Runs of 512 calls by chance (always the same), and each call with extreme numbers: none throws, and
+ * findings are counted as they are told.
+ */
 public final class NeverThrowsTest {
 
     private static final int[] MOSTS = {2, 3, 5, 8, 12, 12, 42, 101, 2049, 10001};
@@ -23,7 +27,31 @@ public final class NeverThrowsTest {
         for (int run = 0; run < 300; run++) {
             oneRun(run, calls, chance);
         }
+        for (Method call : calls) {
+            extremes(call);
+        }
         Due.end();
+    }
+
+    /** Each call with the ends of int, and what is around 0, in each place. */
+    private static void extremes(Method call) throws IllegalAccessException {
+        int[] extremes = {Integer.MIN_VALUE, Integer.MIN_VALUE + 1, -1, 0, 1, Integer.MAX_VALUE - 1, Integer.MAX_VALUE};
+        int n = call.getParameterCount();
+        GutterRights x = Bounds.busy();
+        for (int which = 0; which < Math.pow(extremes.length, n); which++) {
+            Object[] arguments = new Object[n];
+            int rest = which;
+            for (int k = 0; k < n; k++) {
+                arguments[k] = extremes[rest % extremes.length];
+                rest /= extremes.length;
+            }
+            x = which % 300 == 0 ? Bounds.busy() : x;
+            try {
+                call.invoke(x, arguments);
+            } catch (InvocationTargetException e) {
+                Due.due(call.getName() + Arrays.toString(arguments) + " threw " + e.getCause(), 1, 0);
+            }
+        }
     }
 
     private static void oneRun(int run, List<Method> calls, Random chance) throws IllegalAccessException {

@@ -4,6 +4,7 @@ public final class ShowersTest {
     public static void main(String[] args) {
         draws();
         showersThatLeaveDry();
+        anyHouse();
         beyond();
         odds();
         seed();
@@ -61,6 +62,27 @@ public final class ShowersTest {
         Due.due("showers(20), some dry", x.showers(20), dry);
         Due.due("z behind twenty", x.count(6), z);
         Due.due("rain stays as drawn last", x.now(6), rainOf(z));
+    }
+
+    /** "in how many of these any HOUSE was DRY": each one counts, and several count once. */
+    private static void anyHouse() {
+        for (int dry = 0; dry < 11; dry++) {
+            GutterRights x = new GutterRights();
+            for (int house = 0; house < 11; house++) {
+                x.change(house, 2, house == dry ? 99 : 0);
+                x.change(house, 3, 0);
+            }
+            x.change(dry, 0, 2);
+            Due.due("showers(1), " + dry + " is dry", x.showers(1), 1);
+            Due.due("it was", x.now(4), 1 << dry);
+            x.change(dry, 1, 198);
+            Due.due("showers(1), " + dry + " isn't", x.showers(1), 0);
+        }
+        GutterRights x = new GutterRights();
+        for (int house = 0; house < 11; house++) {
+            x.change(house, 2, 99);
+        }
+        Due.due("all are dry", x.showers(20), 20);
     }
 
     private static void beyond() {
