@@ -4,6 +4,7 @@ public final class ImagesTest {
     public static void main(String[] args) {
         imageAndUndo();
         allIsKept();
+        hourOfUndo();
         imageChangesNothing();
         keptLatest();
         whatIsNotKept();
@@ -79,6 +80,24 @@ public final class ImagesTest {
         Due.due("LOST", x.now(3), 0);
         Due.due("RAIN", x.now(6), 321);
         Due.due("z", x.count(6), -9);
+    }
+
+    /** undo() answers HOUR as it was kept, whatever was looked at ahead. */
+    private static void hourOfUndo() {
+        GutterRights x = new GutterRights();
+        x.go(5);
+        x.image();
+        x.go(7);
+        x.ahead(0, 1, 3);
+        Due.due("undo", x.undo(), 5);
+        Due.due("now(0)", x.now(0), 5);
+        x.alley(30);
+        Due.due("undo behind alley", x.undo(), 5);
+        x.image();
+        x.tear();
+        x.go(1);
+        Due.due("undo behind tear", x.undo(), Due.NONE);
+        Due.due("now(0) then", x.now(0), 6);
     }
 
     private static void imageChangesNothing() {

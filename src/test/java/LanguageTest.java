@@ -1,4 +1,5 @@
 import java.io.IOException;
+import java.lang.reflect.Field;
 import java.lang.reflect.Member;
 import java.lang.reflect.Method;
 import java.lang.reflect.Modifier;
@@ -30,7 +31,10 @@ public final class LanguageTest {
     public static void main(String[] args) throws IOException {
         face();
         membersBeside();
-        source(withoutComments(Files.readString(Path.of("src/main/java/GutterRights.java"))));
+        sizes();
+        String text = Files.readString(Path.of("src/main/java/GutterRights.java"));
+        source(withoutComments(text));
+        lengths(text);
         Due.end();
     }
 
@@ -83,6 +87,37 @@ public final class LanguageTest {
                 Due.due(member + " has at most seven parameters", Math.max(7, ((Method) member).getParameterCount()), 7);
             }
         }
+    }
+
+    /** Rules 1, 5, 11: how many classes and fields there are, and what is static. */
+    private static void sizes() {
+        List<Class<?>> classes = new ArrayList<>(Arrays.asList(GutterRights.class.getDeclaredClasses()));
+        classes.add(GutterRights.class);
+        Due.due("classes", Math.max(12, classes.size()), 12);
+        for (Class<?> each : classes) {
+            int fields = 0;
+            for (Field field : each.getDeclaredFields()) {
+                boolean isStatic = Modifier.isStatic(field.getModifiers());
+                fields += isStatic ? 0 : 1;
+                Due.due(field + " is final, if static", isStatic && !Modifier.isFinal(field.getModifiers()) ? 1 : 0, 0);
+            }
+            Due.due("fields of " + each, Math.max(20, fields), 20);
+            Due.due(each + " is public", Modifier.isPublic(each.getModifiers()) == (each == GutterRights.class) ? 1 : 0, 1);
+        }
+    }
+
+    /** Rules 4 and 11: methods of some sixty lines at most; signs 1 to 127. */
+    private static void lengths(String text) {
+        Matcher body = Pattern.compile("(?m)^( {4}| {8})\\S[^;=\n]*\\) \\{\n(?:.*\n)*?\\1\\}$").matcher(text);
+        int methods = 0;
+        while (body.find()) {
+            methods++;
+            long lines = body.group().lines().count();
+            Due.due("lines of " + body.group().lines().findFirst().get().strip(), Math.max(60, lines), 60);
+        }
+        Due.due("methods are seen", methods > 80 ? 1 : 0, 1);
+        Due.due("signs", text.chars().allMatch(c -> c >= 1 && c <= 127) ? 1 : 0, 1);
+        Due.due("a package line", text.contains("package ") ? 1 : 0, 0);
     }
 
     private static String withoutComments(String source) {

@@ -66,6 +66,10 @@ public final class TextsTest {
         Due.due("all parts, no blanks", Due.text(x, "font10has0needs0holds0left;rain0"), 2);
         row(x, 10, 1, 0, 0, 0, 0);
         Due.due("rain 0", x.now(6), 0);
+        Due.due("TOKENS without blanks", Due.text(x, "mossy3has9needs8holds7right"), 1);
+        row(x, 3, 5, 9, 8, 7, 1);
+        Due.due("TOKENS with many blanks", Due.text(x, "   mossy   3   has   0   needs   2   left   "), 1);
+        row(x, 3, 5, 0, 2, 7, 0);
         Due.due("some parts", Due.text(x, "  mossy 0003   holds 00000000000000000012 right ;  rain 999 "), 2);
         row(x, 3, 5, 0, 2, 12, 1);
         Due.due("rain 999", x.now(6), 999);
@@ -149,10 +153,32 @@ public final class TextsTest {
         fault("rain 5;house 1 has 3;dyer 12", 26);
         fault("rain 5" + (char) 225, 6);
         fault("rain" + (char) 0 + "5", 4);
+        tokensAsLongAsCanBe();
         fault("house 1 `", 8);
         fault("house 1 {", 8);
         fault("house 1 /", 8);
         fault("house 1 :", 8);
+    }
+
+    /** "TOKENS, each as long as can be: WORDS (letters a to z), NUMBERS (digits ..)": no less, and no more. */
+    private static void tokensAsLongAsCanBe() {
+        fault("housez 1", 0);
+        fault("housea 1", 0);
+        fault("house`1", 5);
+        fault("house{1", 5);
+        fault("house@1", 5);
+        fault("rain 5/", 6);
+        fault("rain 5:", 6);
+        fault("rain 1/1", 6);
+        fault("rain 1:1", 6);
+        fault("rain 0005a", 9);
+        fault("rain 10000", 5);
+        fault("rain 9999", 5);
+        fault("house 1 has 99999", 12);
+        fault("house 1 0", 8);
+        fault("house 1 h as 3", 8);
+        fault("house 1 has 3 4", 14);
+        fault("ra in 5", 0);
     }
 
     private static void fault(String text, int place) {
