@@ -16,6 +16,7 @@ public final class AtBoundsTest {
         turnOfMany();
         best();
         bestOfTheLast();
+        bestOfTheDriest();
         love();
         loveOfTheLast();
         burst();
@@ -311,6 +312,19 @@ public final class AtBoundsTest {
         x.change(10, 1, 2);
         Due.due("best(1), turned", x.best(1), 0);
         Due.due("best(2), turned back", x.best(2), 9);
+    }
+
+    /** All HOUSES are DRY in any case, or all but one. */
+    private static void bestOfTheDriest() {
+        GutterRights x = new GutterRights();
+        x.rain(0);
+        x.change(3, 1, 100);
+        x.change(5, 1, 2);
+        x.change(5, 3, 999);
+        Due.due("dry(10)", x.dry(10), 2047);
+        Due.due("best(10): 5 alone isn't dry", x.best(10), 3);
+        x.change(5, 1, 1);
+        Due.due("best(10): all are dry", x.best(10), 0);
     }
 
     /** What is in HOUSE 0 comes to HOUSE 10 behind ten HOURS, and is gone behind eleven: none may be turned. */
